@@ -1,0 +1,81 @@
+import java.util.concurrent.Callable;
+
+/** Counts the answers that are not as due, and ends the test by them. */
+final class Check {
+    private static int wrong = 0;
+    private static int asked = 0;
+
+    private Check() {
+    }
+
+    static void due(String what, Object got, Object want) {
+        asked++;
+        if (!got.equals(want)) {
+            wrong++;
+            System.out.println(what + " answered " + got + ", due is " + want);
+        }
+    }
+
+    /** What a call answers, or the name of the exception that it throws. */
+    static Object answer(Callable<Object> call) {
+        try {
+            return call.call();
+        } catch (Exception thrown) {
+            return thrown.getClass().getSimpleName();
+        }
+    }
+
+    static void outside(String what, Callable<Object> call) {
+        due(what, answer(call), "IndexOutOfBoundsException");
+    }
+
+    static void bad(String what, Callable<Object> call) {
+        due(what, answer(call), "IllegalArgumentException");
+    }
+
+    static void untimely(String what, Callable<Object> call) {
+        due(what, answer(call), "IllegalStateException");
+    }
+
+    static void typeAll(SievePost house, String text) {
+        for (int from = 0; from < text.length(); from += 4) {
+            house.type(signAt(text, from), signAt(text, from + 1), signAt(text, from + 2), signAt(text, from + 3));
+        }
+    }
+
+    private static char signAt(String text, int place) {
+        return place < text.length() ? text.charAt(place) : ' ';
+    }
+
+    static int faultOf(SievePost house, String text) {
+        house.wipe();
+        typeAll(house, text);
+        int place = house.fault();
+        house.wipe();
+        return place;
+    }
+
+    /** Makes a rule by a text, for all kinds. */
+    static int rule(SievePost house, String text) {
+        return rule(house, text, 1023);
+    }
+
+    static int rule(SievePost house, String text, int scope) {
+        house.wipe();
+        typeAll(house, text);
+        return house.addRule(scope);
+    }
+
+    static int mend(SievePost house, int rule, String text) {
+        house.wipe();
+        typeAll(house, text);
+        return house.mend(rule);
+    }
+
+    static void end() {
+        System.out.println(asked + " answers, " + wrong + " not as due");
+        if (wrong != 0) {
+            System.exit(1);
+        }
+    }
+}
