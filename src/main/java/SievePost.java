@@ -639,7 +639,10 @@ public final class SievePost {
     }
 
     private static int held(int value) {
-        return Math.max(-HELD, Math.min(HELD, value));
+        if (value > HELD) {
+            return HELD;
+        }
+        return value < -HELD ? -HELD : value;
     }
 
     private static int resultOf(int operator, int only) {
@@ -877,7 +880,9 @@ public final class SievePost {
         }
 
         private void expect(char wanted) {
-            if (!accept(wanted)) {
+            if (sign() == wanted) {
+                place++;
+            } else {
                 fail();
             }
         }

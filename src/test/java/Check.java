@@ -21,8 +21,16 @@ final class Check {
         try {
             return call.call();
         } catch (Exception thrown) {
-            return thrown.getClass().getSimpleName();
+            return told(thrown);
         }
+    }
+
+    /** The name of an exception; one that the program does not throw by a statement of its own is told as such. */
+    static String told(Throwable thrown) {
+        StackTraceElement[] places = thrown.getStackTrace();
+        boolean isOwn = places.length > 0 && !places[0].getClassName().startsWith("java.")
+            && !places[0].getClassName().startsWith("jdk.");
+        return thrown.getClass().getSimpleName() + (isOwn ? "" : " thrown by the library");
     }
 
     static void outside(String what, Callable<Object> call) {

@@ -184,7 +184,7 @@ public final class ModelTest {
                     method.setAccessible(true);
                     return method.invoke(asked, values);
                 } catch (InvocationTargetException thrown) {
-                    return thrown.getCause().getClass().getSimpleName();
+                    return Check.told(thrown.getCause());
                 }
             }
         }

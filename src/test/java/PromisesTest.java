@@ -89,6 +89,9 @@ public final class PromisesTest {
         Check.due("2: 160 signs", house.type(' ', 'n', ' ', ';'), 160);
         Check.due("2: no sign more", house.type(' ', ' ', ' ', ' '), 160);
         Check.untimely("2: one sign more", () -> house.type('n', ' ', ' ', ' '));
+        Check.untimely("2: one sign more, as the second", () -> house.type(' ', 'n', ' ', ' '));
+        Check.untimely("2: one sign more, as the third", () -> house.type(' ', ' ', 'n', ' '));
+        Check.untimely("2: one sign more, as the fourth", () -> house.type(' ', ' ', ' ', 'n'));
         Check.due("2: length stays 160", house.length(), 160);
         Check.due("4: 160 signs are a program", house.fault(), -1);
     }
@@ -130,6 +133,11 @@ public final class PromisesTest {
         Check.bad("5: no program", () -> house.addRule(1));
         Check.due("5: no rule is made", house.rules(), 0);
         Check.due("5: the draft stays", house.length(), 3);
+        house.wipe();
+        Check.typeAll(house, ";");
+        Check.bad("5: at fault at once", () -> house.addRule(1));
+        house.wipe();
+        Check.typeAll(house, "A=1");
         Check.typeAll(house, ";");
         Check.due("5: number of the first", house.addRule(1), 0);
         Check.due("5: the draft is empty", house.length(), 0);
@@ -189,6 +197,9 @@ public final class PromisesTest {
         Check.typeAll(house, "n");
         Check.bad("6: no program", () -> house.mend(0));
         Check.outside("6: no rule, no program", () -> house.mend(1));
+        house.wipe();
+        Check.typeAll(house, "}");
+        Check.bad("6: at fault at once", () -> house.mend(0));
     }
 
     private static void waking() {
@@ -274,6 +285,12 @@ public final class PromisesTest {
         Check.rule(third, "n;");
         third.arrive(0, 1, 0, 0);
         Check.due("9: a step needs one", third.wayEnd(1, 1), 4);
+        SievePost fourth = new SievePost();
+        Check.rule(fourth, "@999{}");
+        fourth.arrive(0, 1, 0, 0);
+        Check.due("9: the first bound is not 1", fourth.isAside(0), false);
+        fourth.arrive(0, 1, 0, 0);
+        Check.due("9: the first bound is 2", fourth.isAside(0), true);
     }
 
     private static void arriving() {
@@ -636,6 +653,7 @@ public final class PromisesTest {
         Check.due("29: the third is the last now", house.waiting(0), 58);
         Check.due("30: the fourth is the first", house.waitingAt(0, 0), 3);
         Check.due("30: the third is the last", house.waitingAt(0, 57), 2);
+        Check.due("30: not so many any more", house.waitingAt(0, 58), -1);
         Check.due("7: one strike is not enough", house.wake(0), 58);
         Check.due("37: it ran twice", house.way(2), 2);
         Check.due("25: one strike", house.strikes(0), 1);
@@ -676,6 +694,14 @@ public final class PromisesTest {
         Check.due("34: folder 5", second.meantFor(0), 5);
         Check.due("41: four flags", second.flagsAnew(0), 15);
         Check.due("40: folder 5", second.meantAnew(0), 5);
+        SievePost third = new SievePost();
+        Check.rule(third, "f3;f0;g0;g1;g2;g3;u0;");
+        Check.rule(third, "g4;u4;f6;g0-1;u0-1;f0-1;?1{g4;}");
+        third.arrive(0, 1, 0, 0);
+        Check.due("34: folder 0 again", third.meantFor(0), 0);
+        Check.due("40: folder 0 again", third.meantAnew(0), 0);
+        Check.due("35: there is no flag 4", third.flags(0), 14);
+        Check.due("41: there is no flag 4", third.flagsAnew(0), 14);
     }
 
     private static void ways() {
