@@ -55,12 +55,10 @@ final class Check {
         return place < text.length() ? text.charAt(place) : ' ';
     }
 
-    static int faultOf(SievePost house, String text) {
-        house.wipe();
+    static int faultOf(String text) {
+        SievePost house = new SievePost();
         typeAll(house, text);
-        int place = house.fault();
-        house.wipe();
-        return place;
+        return house.fault();
     }
 
     /** Makes a rule by a text, for all kinds. */

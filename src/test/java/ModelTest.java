@@ -1,12 +1,15 @@
 import java.lang.reflect.InvocationTargetException;
 import java.lang.reflect.Method;
 import java.util.ArrayList;
+import java.util.Arrays;
+import java.util.Collections;
 import java.util.List;
 import java.util.Random;
 
 /** Long rows of calls by chance, each answer against the one of the model. */
 public final class ModelTest {
-    private static final int HOUSES = 400;
+    private static final int HOUSES = 600;
+    private static final int MOST_CALLS = 512;
     private static final String[] OF_NONE = {"fault", "hour", "length", "rules", "programs", "letters"};
     private static final String[] OF_RULE = {"isAside", "versions", "strikes", "steps", "most", "waiting"};
     private static final String[] OF_LETTER = {"state", "folderOf", "meantFor", "flags", "cost", "way", "meantAnew", "flagsAnew",
@@ -18,6 +21,7 @@ public final class ModelTest {
     private final HouseModel model = new HouseModel();
     private final List<String> texts = new ArrayList<>();
     private final StringBuilder story = new StringBuilder();
+    private final List<Object[]> questions = new ArrayList<>();
     private int calls = 0;
 
     private ModelTest(int seed) {
@@ -48,7 +52,8 @@ public final class ModelTest {
             write();
             call("addRule", random.nextInt(3) == 0 ? 1 + random.nextInt(1023) : 1023);
         }
-        while (calls < 512) {
+        int last = MOST_CALLS - random.nextInt(400);
+        while (calls < last) {
             change();
             for (int count = random.nextInt(4); count > 0; count--) {
                 look();
@@ -132,46 +137,62 @@ public final class ModelTest {
         return edge(Math.max(1, model.letters()));
     }
 
+    /** Asks as much of all that there is to ask as the calls that are left allow, in an order by chance. */
     private void compareAll() throws Exception {
+        collectQuestions();
+        Collections.shuffle(questions, random);
+        for (Object[] question : questions) {
+            call((String) question[0], Arrays.copyOfRange(question, 1, question.length));
+        }
+    }
+
+    private void ask(Object... question) {
+        questions.add(question);
+    }
+
+    private void collectQuestions() {
         for (String name : OF_NONE) {
-            call(name);
+            ask(name);
         }
         for (int rule = 0; rule < model.rules(); rule++) {
             for (String name : OF_RULE) {
-                call(name, rule);
+                ask(name, rule);
             }
             for (int place = 0; place <= model.waiting(rule); place++) {
-                call("waitingAt", rule, place);
+                ask("waitingAt", rule, place);
             }
             for (int version = 0; version <= model.versions(rule); version++) {
-                call("programOf", rule, version);
+                ask("programOf", rule, version);
             }
             for (boolean is : new boolean[] {false, true}) {
-                call("memory", rule, is);
-                call("runs", rule, is);
+                ask("memory", rule, is);
+                ask("runs", rule, is);
             }
         }
         for (int letter = 0; letter < model.letters(); letter++) {
             for (String name : OF_LETTER) {
-                call(name, letter);
+                ask(name, letter);
             }
             for (int run = 0; run <= model.way(letter); run++) {
-                call("wayRule", letter, run);
-                call("wayEnd", letter, run);
-                call("endAnew", letter, run);
+                ask("wayRule", letter, run);
+                ask("wayEnd", letter, run);
+                ask("endAnew", letter, run);
             }
         }
         for (int number = 0; number < 16; number++) {
-            call("trust", number);
-            call("load", number);
+            ask("trust", number);
+            ask("load", number);
         }
     }
 
     private void call(String name, Object... values) throws Exception {
+        if (calls >= MOST_CALLS) {
+            return;
+        }
         calls++;
         Object got = answer(house, name, values);
         Object due = answer(model, name, values);
-        String told = name + java.util.Arrays.toString(values) + " " + got;
+        String told = name + Arrays.toString(values) + " " + got;
         story.append(told).append(got.equals(due) ? "" : " !! " + due).append('\n');
         Check.due(told, got, due);
     }

@@ -58,20 +58,8 @@ public final class PromisesTest {
 
     private static void typing() {
         SievePost house = new SievePost();
-        String signs = "0123456789abcdfghknqsuxzAB?:@{}();=<>+-*/%!&|";
-        for (char sign = 0; sign < 400; sign++) {
-            char one = sign;
-            Object due = signs.indexOf(one) >= 0 ? (Object) 1 : one == ' ' ? (Object) 0 : "IllegalArgumentException";
-            house.wipe();
-            Check.due("2: type sign " + (int) one + " first", Check.answer(() -> house.type(one, ' ', ' ', ' ')), due);
-            house.wipe();
-            Check.due("2: type sign " + (int) one + " second", Check.answer(() -> house.type(' ', one, ' ', ' ')), due);
-            house.wipe();
-            Check.due("2: type sign " + (int) one + " third", Check.answer(() -> house.type(' ', ' ', one, ' ')), due);
-            house.wipe();
-            Check.due("2: type sign " + (int) one + " fourth", Check.answer(() -> house.type(' ', ' ', ' ', one)), due);
-        }
-        house.wipe();
+        Check.bad("2: no sign of the language", () -> house.type('e', ' ', ' ', ' '));
+        Check.due("2: nothing but blanks", house.type(' ', ' ', ' ', ' '), 0);
         Check.bad("2: type a high sign", () -> house.type('a', '\uffff', ' ', ' '));
         Check.due("2: nothing of it is put", house.length(), 0);
         Check.due("2: blanks between", house.type('A', ' ', '=', '7'), 3);
@@ -109,7 +97,7 @@ public final class PromisesTest {
             "a=1|2&3=4+5*6;", "a=(1=2)=3;", "a=!-!-1;", "a=1--1;", "a=1=-1;", "@s{@z{@d{@k{@h{@a{@b{@c{n;}}}}}}}}",
             "f((((((((1))))))));", "@1{f(((((((1)))))));}", "u1-1;g!0;", "c=a%b/c*2;"};
         for (String program : programs) {
-            Check.due("4: fault of " + program, Check.faultOf(house, program), -1);
+            Check.due("4: fault of " + program, Check.faultOf(program), -1);
         }
         Object[][] faulty = {{";", 0}, {"}", 0}, {"s=1;", 0}, {"1", 0}, {"{", 0}, {":", 0}, {"a", 1}, {"a1", 1}, {"a=", 2},
             {"a=;", 2}, {"a=1", 3}, {"a=1234;", 5}, {"a=12a;", 4}, {"a=a1;", 3}, {"a=ab;", 3}, {"a=1=2=3;", 5},
@@ -120,7 +108,7 @@ public final class PromisesTest {
             {"@1{@1{@1{@1{@1{@1{@1{@1{f(1);", 25}, {"@1{@1{@1{@1{@1{@1{@1{@1{?1", 26}, {"@1{@1{@1{@1{@1{@1{@1{f((", 23},
             {"f((((((((1))))))))+(((((((((1", 27}};
         for (Object[] row : faulty) {
-            Check.due("4: fault of " + row[0], Check.faultOf(house, (String) row[0]), row[1]);
+            Check.due("4: fault of " + row[0], Check.faultOf((String) row[0]), row[1]);
         }
     }
 
