@@ -123,6 +123,24 @@ public final class EdgesTest {
         Check.due("36: 158 steps of 160 signs", most.cost(0), 158);
         Check.due("42: 158 steps of 160 signs", most.costAnew(0), 158);
         Check.due("24: an even row of !", most.memory(0, false), 1);
+        // the texts that make the most of 160 signs: each is run to its last sign, and not a step too far
+        Object[][] rows = {{"f01" + "&1".repeat(78) + ";", 1, 158}, {"f00" + "|0".repeat(77) + "|3;", 1, 158},
+            {"f4;f" + "1&".repeat(76) + "00;", 0, 156}, {"f4;f" + "0|".repeat(76) + "00;", 0, 156},
+            {"f" + "!".repeat(156) + "05;", 1, 158}, {"f1" + "+0".repeat(78) + ";", 1, 158}, {"f1" + "*1".repeat(78) + ";", 1, 158},
+            {"@1{}".repeat(39) + "f5;", 5, 119}, {"?1{}:{}".repeat(22) + "f5;", 5, 46}, {"f5;" + "n;".repeat(78), 5, 3}};
+        for (Object[] row : rows) {
+            String text = (String) row[0];
+            int steps = (Integer) row[2];
+            Check.due("a text of at most 160 signs", text.length() > 155 && text.length() <= 160, true);
+            SievePost met = ran(text, steps);
+            Check.due("34: met exactly by " + text, met.meantFor(0), row[1]);
+            Check.due("40: met exactly by " + text, met.meantAnew(0), row[1]);
+            Check.due("36: met exactly by " + text, met.cost(0), steps);
+            Check.due("42: met exactly by " + text, met.costAnew(0), steps);
+            SievePost over = ran(text, steps - 1);
+            Check.due("39: gone over by " + text, over.wayEnd(0, 0), 4);
+            Check.due("43: gone over by " + text, over.endAnew(0, 0), 4);
+        }
     }
 
     private static void emptyDraft() {
@@ -166,6 +184,11 @@ public final class EdgesTest {
         fault(seven + "?1{" + "@1{", 26);
         fault(seven + "?1{" + "?1", 26);
         fault(seven + "?1{" + "?1;", 26);
+        fault(seven + "?1{" + "?1}", 26);
+        fault(seven + "?1{" + "?1}" + "}".repeat(7), 26);
+        fault(seven + "?1{" + "@1}" + "}".repeat(7), 26);
+        fault(seven + "?1{" + "?1:", 26);
+        fault(seven + "?1{}:}" + "}".repeat(7), 26);
         fault(seven + "?1{}:{}" + "}".repeat(7), -1);
         fault(seven + "?1{}:{?1{", 29);
         fault(seven + "?(1){}" + "}".repeat(7), -1);

@@ -2,6 +2,8 @@ import java.util.Random;
 
 /** Promise 4 by many drafts, against the grammar told once more. */
 public final class FaultTest {
+    private static final String SIGNS = "0123456789abcdfghknqsuxzAB?:@{}();=<>+-*/%!&|";
+
     private FaultTest() {
     }
 
@@ -21,7 +23,26 @@ public final class FaultTest {
         same("n;".repeat(80));
         same("a=" + "1&".repeat(78) + "1;");
         same("?1{?1{?1{?1{?1{?1{?1{?1{" + "n;".repeat(64) + "}}}}}}}}");
+        eachSignWhereMuchIsOpen();
         Check.end();
+    }
+
+    private static void eachSignWhereMuchIsOpen() {
+        String[] heads = {"", "?", "?1", "?1{}", "?1{}:", "?1{}:{}", "@", "@1", "@1{}", "a", "a=", "a=1", "a=1=1", "f", "f-1", "n", "n;"};
+        for (int open = 6; open <= 8; open++) {
+            for (String head : heads) {
+                for (char sign : SIGNS.toCharArray()) {
+                    same("?1{".repeat(open) + head + sign);
+                    same("?1{".repeat(open) + head + sign + "}".repeat(open));
+                }
+            }
+            for (String head : new String[] {"", "-", "1", "1+", "1=1", "1|", "1)", "1)+", "1){", "1))"}) {
+                for (char sign : SIGNS.toCharArray()) {
+                    same("?" + "(".repeat(open) + head + sign);
+                    same("?1{?1{f" + "(".repeat(open - 2) + head + sign);
+                }
+            }
+        }
     }
 
     private static void same(String draft) {
