@@ -1,18 +1,32 @@
+import java.util.Set;
+import java.util.TreeSet;
 import java.util.concurrent.Callable;
 
 /** Counts the answers that are not as due, and ends the test by them. */
 final class Check {
     private static int wrong = 0;
     private static int asked = 0;
+    private static final Set<Integer> NUMBERS = new TreeSet<>();
 
     private Check() {
     }
 
     static void due(String what, Object got, Object want) {
         asked++;
+        String number = what.replaceFirst(":.*", "");
+        if (number.matches("[0-9]+")) {
+            NUMBERS.add(Integer.valueOf(number));
+        }
         if (!got.equals(want)) {
             wrong++;
             System.out.println(what + " answered " + got + ", due is " + want);
+        }
+    }
+
+    /** Each promise up to this one must have been told by its number, in front of what was asked. */
+    static void eachPromise(int last) {
+        for (int number = 1; number <= last; number++) {
+            due("promise " + number + " is asked", NUMBERS.contains(number), true);
         }
     }
 

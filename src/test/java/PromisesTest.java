@@ -33,6 +33,7 @@ public final class PromisesTest {
         waysAnew();
         wrongNumbers();
         nothingChangesByAThrow();
+        Check.eachPromise(45);
         Check.end();
     }
 
